@@ -1,0 +1,108 @@
+import java.nio.charset.StandardCharsets;
+
+/** What the tests share: they print each answer that is not due, and end with exit code 1 if there was one. */
+final class Check {
+    interface Call {
+        Object make();
+    }
+
+    static final Class<?> INDEX = IndexOutOfBoundsException.class;
+    static final Class<?> ARGUMENT = IllegalArgumentException.class;
+    static final Class<?> STATE = IllegalStateException.class;
+
+    private static int wrong = 0;
+    private static int made = 0;
+
+    private Check() {
+    }
+
+    static void same(String what, Object due, Object got) {
+        made++;
+        if (!due.equals(got)) {
+            wrong++;
+            System.out.println(what + ": due is " + due + ", the answer is " + got);
+        }
+    }
+
+    /** Asks for the very class and for a throw in the code: the machine's own exceptions are of other classes. */
+    static void throwing(String what, Class<?> due, Call call) {
+        same(what, due.getName(), nameOfThrown(call));
+    }
+
+    static String nameOfThrown(Call call) {
+        try {
+            return "answer " + call.make();
+        } catch (RuntimeException e) {
+            StackTraceElement[] trace = e.getStackTrace();
+            boolean own = trace.length > 0 && trace[0].getClassName().startsWith("SilenceBureau");
+            return own ? e.getClass().getName() : e.getClass().getName() + " of the machine";
+        }
+    }
+
+    /** Appends the text, filled up with bytes that would be an error if they were parsed. */
+    static void append(SilenceBureau x, String text) {
+        append(x, text.getBytes(StandardCharsets.ISO_8859_1));
+    }
+
+    static void append(SilenceBureau x, byte[] text) {
+        for (int from = 0; from < text.length; from += 20) {
+            int[] words = new int[5];
+            for (int i = 0; i < 20; i++) {
+                int b = from + i < text.length ? text[from + i] & 255 : '?';
+                words[i / 4] = words[i / 4] << 8 | b;
+            }
+            x.append(words[0], words[1], words[2], words[3], words[4]);
+        }
+    }
+
+    static int load(SilenceBureau x, String text) {
+        append(x, text);
+        return x.load(text.length());
+    }
+
+    static SilenceBureau loaded(String text) {
+        SilenceBureau x = new SilenceBureau();
+        load(x, text);
+        return x;
+    }
+
+    static String output(SilenceBureau x, int length) {
+        StringBuilder text = new StringBuilder();
+        for (int i = 0; i < length; i++) {
+            text.append((char) x.outputByte(i));
+        }
+        return text.toString();
+    }
+
+    /** All that can be asked about the state that undo() restores, without changing it. */
+    static String picture(SilenceBureau x) {
+        StringBuilder p = new StringBuilder();
+        p.append(x.clock()).append(' ').append(x.isNight()).append(' ').append(x.gracePeriod()).append(' ');
+        p.append(x.lateFee()).append(" permits ").append(x.permitCount());
+        for (int s = 0; s < x.streetCount(); s++) {
+            p.append("\nstreet ").append(x.noiseTotal(s)).append(' ').append(x.quietHours(s));
+            for (int h = x.clock(); h < x.clock() + 48; h++) {
+                p.append(' ').append(x.noiseAt(s, h)).append('/').append(x.permitFor(s, h));
+            }
+        }
+        for (int b = 0; b < x.borrowerCount(); b++) {
+            p.append("\nborrower ").append(x.streetOf(b)).append(' ').append(x.illnessOf(b)).append(' ');
+            p.append(x.creditOf(b)).append(' ').append(x.overdueLoans(b));
+            for (int hours = 0; hours <= 48; hours++) {
+                p.append(' ').append(x.illnessAfter(b, hours));
+            }
+        }
+        for (int i = 0; i < x.loanCount(); i++) {
+            p.append("\nloan ").append(x.borrowerOf(i)).append(' ').append(x.startOf(i)).append(' ');
+            p.append(x.lengthOf(i)).append(' ').append(x.priceOf(i)).append(' ').append(x.statusOf(i));
+        }
+        return p.toString();
+    }
+
+    static void end(String test) {
+        System.out.println(test + ": " + made + " answers, " + wrong + " not as due");
+        if (wrong != 0) {
+            System.exit(1);
+        }
+    }
+}
