@@ -1,0 +1,120 @@
+/** Promises 15 and 51 to 53: undo and saved states. */
+final class HistoryTest {
+    public static void main(String[] args) {
+        tenChanges();
+        everyChange();
+        afterUndo();
+        whatUndoLeaves();
+        saving();
+        Check.end("HistoryTest");
+    }
+
+    private static void tenChanges() {
+        SilenceBureau x = new SilenceBureau();
+        Check.throwing("nothing to undo", Check.STATE, () -> x.undo());
+        String[] pictures = new String[15];
+        for (int i = 0; i < 15; i++) {
+            pictures[i] = Check.picture(x);
+            Check.same("changes before change " + i, Math.min(i, 10), x.undoCount());
+            x.pay(i % 3, i + 1);
+        }
+        for (int i = 14; i >= 5; i--) {
+            Check.same("changes left", i - 5, x.undo());
+            Check.same("undoCount", i - 5, x.undoCount());
+            Check.same("the state before change " + i, pictures[i], Check.picture(x));
+        }
+        Check.throwing("only ten are undone", Check.STATE, () -> x.undo());
+        Check.same("a failing undo alters nothing", pictures[5], Check.picture(x));
+    }
+
+    private static void everyChange() {
+        SilenceBureau x = new SilenceBureau();
+        x.save(1);
+        Check.Call[] changes = {() -> x.lend(2, 12, 2), () -> x.lend(1, 12, 1), () -> x.cancel(3), () -> x.advance(2),
+            () -> x.whistle(0), () -> x.grantPermit(0, 8, 3), () -> x.revokePermit(0), () -> x.pay(2, 77),
+            () -> x.advance(9), () -> x.restore(1)};
+        String[] pictures = new String[changes.length];
+        for (int i = 0; i < changes.length; i++) {
+            pictures[i] = Check.picture(x);
+            changes[i].make();
+            Check.same("recorded changes", i + 1, x.undoCount());
+        }
+        for (int i = changes.length - 1; i >= 0; i--) {
+            x.undo();
+            Check.same("change " + i + " is undone", pictures[i], Check.picture(x));
+        }
+        Check.same("undone: the next loan has the same number", 2, x.lend(2, 12, 2));
+        x.advance(40);
+        x.undo();
+        x.undo();
+        Check.same("noise totals are undone", 250, x.noiseTotal(1));
+        x.restore(1);
+        Check.same("a change that alters nothing is recorded", 1, x.undoCount());
+    }
+
+    private static void afterUndo() {
+        SilenceBureau x = new SilenceBureau();
+        for (int i = 1; i <= 12; i++) {
+            x.pay(0, i);
+        }
+        Check.same("undo of the 12th", 9, x.undo());
+        Check.same("undo of the 11th", 8, x.undo());
+        Check.same("another change", 26 + 55 + 100, x.pay(0, 100));
+        Check.same("changes that can be undone", 9, x.undoCount());
+        Check.same("undo of the other change", 8, x.undo());
+        Check.same("the credit before it", 26 + 55, x.creditOf(0));
+        Check.same("undo of the 10th", 7, x.undo());
+        Check.same("the credit before the 10th", 26 + 45, x.creditOf(0));
+    }
+
+    private static void whatUndoLeaves() {
+        SilenceBureau x = new SilenceBureau();
+        x.pay(0, 1);
+        x.save(0);
+        Check.throwing("an error", Check.ARGUMENT, () -> Check.load(x, "bureau 1 100"));
+        x.append(0, 0, 0, 0, 0);
+        int written = x.writeBorrower(0);
+        x.undo();
+        Check.same("the reported kind stays", 2, x.errorKind());
+        Check.same("the reported offset stays", 9, x.errorOffset());
+        Check.same("the output stays", "ann@elm 3 27", Check.output(x, written));
+        Check.same("the input stays", 40, x.append(0, 0, 0, 0, 0));
+        Check.same("the saved state stays", 5, x.restore(0));
+        Check.same("with its payment", 27, x.creditOf(0));
+    }
+
+    private static void saving() {
+        SilenceBureau x = new SilenceBureau();
+        int[] wrong = {-1, 2, Integer.MIN_VALUE, Integer.MAX_VALUE};
+        for (int slot : wrong) {
+            Check.throwing("save(" + slot + ")", Check.INDEX, () -> x.save(slot));
+            Check.throwing("restore(" + slot + ")", Check.INDEX, () -> x.restore(slot));
+        }
+        Check.throwing("restore of nothing", Check.STATE, () -> x.restore(1));
+        String first = Check.picture(x);
+        Check.same("save answers the clock", 5, x.save(1));
+        Check.same("saving is no change", 0, x.undoCount());
+        Check.throwing("the other slot is empty", Check.STATE, () -> x.restore(0));
+        x.advance(8);
+        x.pay(1, 9);
+        String second = Check.picture(x);
+        Check.same("save in the other slot", 13, x.save(0));
+        Check.same("restore answers the clock", 5, x.restore(1));
+        Check.same("the first state", first, Check.picture(x));
+        Check.same("restoring is a change", 3, x.undoCount());
+        x.pay(2, 1);
+        x.lend(2, 12, 1);
+        Check.same("the state stays saved", 5, x.restore(1));
+        Check.same("unaltered", first, Check.picture(x));
+        Check.same("the other one too", 13, x.restore(0));
+        Check.same("the second state", second, Check.picture(x));
+        x.undo();
+        Check.same("a restore is undone", first, Check.picture(x));
+        x.restore(0);
+        x.advance(1);
+        Check.same("save replaces", 14, x.save(1));
+        Check.same("and the new state is restored", 14, x.restore(1));
+        x.undo();
+        Check.same("save stays when changes are undone", 14, x.restore(1));
+    }
+}
