@@ -77,8 +77,19 @@ final class BorrowerTest {
         x.advance(4);
         x.advance(12);
         Check.same("four and three more are not twelve", 1, x.illnessOf(0));
-        x.advance(4);
+        x.advance(3);
+        Check.same("eleven again over the night", 1, x.illnessOf(0));
+        Check.same("one hour more in the forecast", 2, x.illnessAfter(0, 1));
+        x.advance(1);
         Check.same("twelve again over the night", 2, x.illnessOf(0));
+        x.advance(8);
+        x.save(0);
+        x.advance(20);
+        x.restore(0);
+        Check.same("the count of strain is saved", 3, x.illnessAfter(0, 10 + 12));
+        x.undo();
+        x.undo();
+        Check.same("the count of strain is restored", 3, x.illnessAfter(0, 10 + 12));
     }
 
     private static void bounds() {

@@ -88,6 +88,8 @@ final class ChangeTest {
 
     private static void revokePermit() {
         SilenceBureau x = Check.loaded("bureau 1 0;street s 30 0;permit s 0 1;permit s 1 4;permit s 9 1;hours 2");
+        Check.same("the first permit still counts", 2, x.revokePermit(2));
+        x.undo();
         Check.same("a permit that is over", 2, x.revokePermit(0));
         Check.same("a permit that has begun", 1, x.revokePermit(1));
         Check.same("it covers no more", -1, x.permitFor(0, 3));

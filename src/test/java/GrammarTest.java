@@ -68,6 +68,9 @@ final class GrammarTest {
         bad(1, "|burea");
         bad(1, "|bureaus 1 0");
         bad(1, "|Bureau 1 0");
+        bad(1, "|xureau 1 0");
+        bad(1, "bureau 1 0;|xtreet a 1 1");
+        bad(1, "bureau 1 0;|houry 1");
         bad(1, "|1 0");
         bad(1, "|;bureau 1 0");
         bad(1, "|street a 1 1");

@@ -4,6 +4,7 @@ final class HistoryTest {
         tenChanges();
         everyChange();
         afterUndo();
+        undoneNumbersAreNew();
         whatUndoLeaves();
         saving();
         Check.end("HistoryTest");
@@ -65,6 +66,32 @@ final class HistoryTest {
         Check.same("the credit before it", 26 + 55, x.creditOf(0));
         Check.same("undo of the 10th", 7, x.undo());
         Check.same("the credit before the 10th", 26 + 45, x.creditOf(0));
+    }
+
+    private static void undoneNumbersAreNew() {
+        SilenceBureau x = new SilenceBureau();
+        x.grantPermit(0, 20, 1);
+        x.revokePermit(1);
+        x.lend(2, 30, 1);
+        x.cancel(2);
+        for (int i = 0; i < 4; i++) {
+            x.undo();
+        }
+        Check.same("the same permit", 1, x.grantPermit(0, 20, 1));
+        Check.same("it is not revoked", 1, x.permitFor(0, 20));
+        Check.same("the same loan", 2, x.lend(2, 30, 1));
+        Check.same("it is not cancelled", SilenceBureau.PLANNED, x.statusOf(2));
+        SilenceBureau y = new SilenceBureau();
+        y.save(0);
+        y.grantPermit(0, 20, 1);
+        y.revokePermit(1);
+        y.lend(2, 30, 1);
+        y.cancel(2);
+        y.restore(0);
+        Check.same("the permit after a restore", 1, y.grantPermit(0, 20, 1));
+        Check.same("it is not revoked either", 1, y.permitFor(0, 20));
+        Check.same("the loan after a restore", 2, y.lend(2, 30, 1));
+        Check.same("it is not cancelled either", SilenceBureau.PLANNED, y.statusOf(2));
     }
 
     private static void whatUndoLeaves() {

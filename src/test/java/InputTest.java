@@ -4,6 +4,7 @@ final class InputTest {
         newObject();
         append();
         loadReplacesAll();
+        loadLeavesNothingOver();
         loadBadLength();
         loadWithError();
         Check.end("InputTest");
@@ -74,6 +75,27 @@ final class InputTest {
         Check.same("noise total of a new street", 0, x.noiseTotal(0));
         Check.same("quiet hours of a new street", 0, x.quietHours(0));
         Check.same("clock of a text without hours", 0, x.clock());
+    }
+
+    private static void loadLeavesNothingOver() {
+        String long1 = "bureau 1 9;street s 90 90;street t 0 0;borrower a t 9 99;borrower b s 5 999;borrower c s 3 99;"
+                + "permit s 30 2;permit t 2 2;lend a 1 1;lend b 3 1;hours 11;lend c 20 1;whistle 0;hours 5";
+        String long2 = "bureau 2 8;street u 90 90;street v 0 0;borrower d v 9 99;borrower e u 5 99;permit u 3 2;"
+                + "lend d 0 1;hours 1;lend e 5 1";
+        String short1 = "bureau 3 7;street w 1 2";
+        String[] texts = {long1, long2, short1, long2, long1, "bureau 1 0", long1};
+        SilenceBureau x = new SilenceBureau();
+        for (String text : texts) {
+            Check.load(x, text);
+            SilenceBureau fresh = Check.loaded(text);
+            Check.same("a second text stands alone", Check.picture(fresh), Check.picture(x));
+            Check.same("so do its accounts", 0, x.ledgerDifference());
+            Check.same("and its borrowers", fresh.borrowerCount(), x.borrowerCount());
+            x.advance(40);
+            fresh.advance(40);
+            Check.same("and what follows from it", Check.picture(fresh), Check.picture(x));
+            Check.throwing("an error in between", Check.ARGUMENT, () -> Check.load(x, long1 + ";hours"));
+        }
     }
 
     private static void loadBadLength() {

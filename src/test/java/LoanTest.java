@@ -100,6 +100,9 @@ final class LoanTest {
         SilenceBureau x = Check.loaded("bureau 1 7;street s 50 1;borrower a s 1 999;borrower b s 2 999;"
                 + "lend a 0 2;lend a 5 2;hours 4");
         Check.same("after a late fee", 0, x.ledgerDifference());
+        x.advance(4);
+        Check.same("after another", 0, x.ledgerDifference());
+        x.undo();
         x.whistle(0);
         x.lend(1, 6, 1);
         Check.same("after a displacement", 0, x.ledgerDifference());
