@@ -828,10 +828,16 @@ public final class SilenceBureau {
         }
 
         int noiseIn(int street, int hour) {
+            return street == silentStreet(hour) ? 0 : outdoorNoise(street, hour);
+        }
+
+        /** The street that a loan silences in the hour; NONE if no loan holds the hour. */
+        int silentStreet(int hour) {
             int loan = holder(hour);
-            if (loan != NONE && streetOfLoan(loan) == street) {
-                return 0;
-            }
+            return loan == NONE ? NONE : streetOfLoan(loan);
+        }
+
+        int outdoorNoise(int street, int hour) {
             int noise = isNightHour(hour) ? streets[street].nightNoise : streets[street].dayNoise;
             return permitAt(street, hour) == NONE ? noise : noise + DRUMS;
         }
@@ -1024,12 +1030,11 @@ public final class SilenceBureau {
         }
 
         private void soundStreets() {
-            int holder = holder(clock);
-            int quietStreet = holder == NONE ? NONE : streetOfLoan(holder);
+            int silent = silentStreet(clock);
             for (int s = 0; s < streetCount; s++) {
-                streets[s].noise = noiseIn(s, clock);
+                streets[s].noise = s == silent ? 0 : outdoorNoise(s, clock);
                 streets[s].noiseTotal += streets[s].noise;
-                if (s == quietStreet) {
+                if (s == silent) {
                     streets[s].quietHours++;
                 }
             }
