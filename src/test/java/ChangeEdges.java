@@ -94,28 +94,34 @@ final class ChangeEdges {
 
     private static void throwingAltersNothing() {
         Sentences.say("A method that throws an exception alters nothing, unless its description says otherwise.");
+        Check.CallOn[] calls = {x -> x.load(21), x -> x.loansWith(6), x -> x.noiseAt(0, 4), x -> x.holderOf(53),
+            x -> x.permitFor(2, 5), x -> x.refusal(0, 4, 1), x -> x.illnessAfter(0, 201), x -> x.lend(2, 8, 2),
+            x -> x.lend(2, 10, 1), x -> x.lend(0, 50, 4), x -> x.cancel(0), x -> x.whistle(1),
+            x -> x.grantPermit(1, 8, 2), x -> x.grantPermit(0, 50, 4), x -> x.revokePermit(1), x -> x.pay(0, 1000),
+            x -> x.advance(100), x -> x.restore(0), x -> x.restore(-1), x -> x.save(2), x -> x.writeBorrower(3),
+            x -> x.outputByte(24)};
+        for (int i = 0; i < calls.length; i++) {
+            throwing(i, calls[i]);
+        }
+        SilenceBureau x = new SilenceBureau();
+        Sentences.throwing("undo without a change", Check.STATE, () -> x.undo());
+        Sentences.same("alters nothing", 26, x.creditOf(0));
+    }
+
+    private static void throwing(int i, Check.CallOn call) {
         SilenceBureau x = new SilenceBureau();
         x.pay(0, 1);
         x.append(0, 0, 0, 0, 0);
         x.writeSchedule();
         String before = Check.picture(x);
-        Check.Call[] calls = {() -> x.load(21), () -> x.loansWith(6), () -> x.noiseAt(0, 4), () -> x.holderOf(53),
-            () -> x.permitFor(2, 5), () -> x.refusal(0, 4, 1), () -> x.illnessAfter(0, 201), () -> x.lend(2, 8, 2),
-            () -> x.lend(2, 10, 1), () -> x.lend(0, 50, 4), () -> x.cancel(0), () -> x.whistle(1),
-            () -> x.grantPermit(1, 8, 2), () -> x.grantPermit(0, 50, 4), () -> x.revokePermit(1), () -> x.pay(0, 1000),
-            () -> x.advance(100), () -> x.restore(0), () -> x.restore(-1), () -> x.save(2), () -> x.writeBorrower(3),
-            () -> x.outputByte(24)};
-        for (int i = 0; i < calls.length; i++) {
-            Sentences.same("call " + i + " throws", true, Check.nameOfThrown(calls[i]).startsWith("java.lang."));
-            Sentences.same("the state after call " + i, before, Check.picture(x));
-            Sentences.same("the changes after call " + i, 1, x.undoCount());
-            Sentences.same("the output after call " + i, "abbb....................", Check.output(x, 24));
-            Sentences.same("the error after call " + i, 0, x.errorKind());
-        }
-        Sentences.same("the input after all calls", 40, x.append(0, 0, 0, 0, 0));
-        x.undo();
-        Sentences.throwing("undo without a change", Check.STATE, () -> x.undo());
-        Sentences.same("alters nothing", 26, x.creditOf(0));
+        Sentences.same("call " + i + " throws", true, Check.nameOfThrown(() -> call.make(x)).startsWith("java.lang."));
+        Sentences.same("the state after call " + i, before, Check.picture(x));
+        Sentences.same("the changes after call " + i, 1, x.undoCount());
+        Sentences.same("the output after call " + i, "abbb....................", Check.output(x, 24));
+        Sentences.same("the error after call " + i, 0, x.errorKind());
+        Sentences.same("the input after call " + i, 40, x.append(0, 0, 0, 0, 0));
+        Sentences.same("undo after call " + i, 0, x.undo());
+        Sentences.same("the credit after call " + i, 26, x.creditOf(0));
     }
 
     private static void firstException() {

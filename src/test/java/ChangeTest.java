@@ -159,15 +159,15 @@ final class ChangeTest {
     }
 
     private static void refusedChangesAlterNothing() {
-        SilenceBureau x = new SilenceBureau();
-        x.pay(0, 1);
-        String before = Check.picture(x);
-        Check.Call[] calls = {() -> x.lend(0, 6, 1), () -> x.lend(9, 6, 1), () -> x.lend(0, 6, 9), () -> x.cancel(0),
-            () -> x.cancel(9), () -> x.whistle(1), () -> x.whistle(9), () -> x.grantPermit(1, 6, 1),
-            () -> x.grantPermit(9, 6, 1), () -> x.grantPermit(0, 6, 99), () -> x.revokePermit(1), () -> x.pay(0, 0),
-            () -> x.pay(9, 1), () -> x.advance(0), () -> x.restore(0), () -> x.restore(2), () -> x.save(2)};
-        for (Check.Call call : calls) {
-            Check.same("it throws", true, Check.nameOfThrown(call).startsWith("java.lang."));
+        Check.CallOn[] calls = {x -> x.lend(0, 6, 1), x -> x.lend(9, 6, 1), x -> x.lend(0, 6, 9), x -> x.cancel(0),
+            x -> x.cancel(9), x -> x.whistle(1), x -> x.whistle(9), x -> x.grantPermit(1, 6, 1),
+            x -> x.grantPermit(9, 6, 1), x -> x.grantPermit(0, 6, 99), x -> x.revokePermit(1), x -> x.pay(0, 0),
+            x -> x.pay(9, 1), x -> x.advance(0), x -> x.restore(0), x -> x.restore(2), x -> x.save(2)};
+        for (Check.CallOn call : calls) {
+            SilenceBureau x = new SilenceBureau();
+            x.pay(0, 1);
+            String before = Check.picture(x);
+            Check.same("it throws", true, Check.nameOfThrown(() -> call.make(x)).startsWith("java.lang."));
             Check.same("nothing has altered", before, Check.picture(x));
             Check.same("nothing is recorded", 1, x.undoCount());
         }

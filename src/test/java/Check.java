@@ -6,9 +6,21 @@ final class Check {
         Object make();
     }
 
+    /** Makes a bureau, the same one each time: so that each question can be put to a fresh one. */
+    interface Maker {
+        SilenceBureau make();
+    }
+
+    /** A call that is made on one bureau and then on another. */
+    interface CallOn {
+        Object make(SilenceBureau x);
+    }
+
     static final Class<?> INDEX = IndexOutOfBoundsException.class;
     static final Class<?> ARGUMENT = IllegalArgumentException.class;
     static final Class<?> STATE = IllegalStateException.class;
+
+    private static final int[] FORECASTS = {1, 2, 3, 4, 5, 6, 9, 12, 18, 24, 36, 48};
 
     private static int wrong = 0;
     private static int made = 0;
@@ -74,27 +86,53 @@ final class Check {
         return text.toString();
     }
 
-    /** All that can be asked about the state that undo() restores, without changing it. */
+    /**
+     * What can be asked about the state that undo() restores, without changing it. It takes some two hundred calls:
+     * the document promises nothing after an object's 512th, so an object is asked twice at most.
+     */
     static String picture(SilenceBureau x) {
+        return summary(x) + permits(x);
+    }
+
+    /** The picture without the hours of the permits. */
+    static String summary(SilenceBureau x) {
         StringBuilder p = new StringBuilder();
-        p.append(x.clock()).append(' ').append(x.isNight()).append(' ').append(x.gracePeriod()).append(' ');
-        p.append(x.lateFee()).append(" permits ").append(x.permitCount());
-        for (int s = 0; s < x.streetCount(); s++) {
+        int clock = x.clock();
+        p.append(clock).append(' ').append(x.gracePeriod()).append(' ').append(x.lateFee());
+        int streets = x.streetCount();
+        for (int s = 0; s < streets; s++) {
             p.append("\nstreet ").append(x.noiseTotal(s)).append(' ').append(x.quietHours(s));
-            for (int h = x.clock(); h < x.clock() + 48; h++) {
-                p.append(' ').append(x.noiseAt(s, h)).append('/').append(x.permitFor(s, h));
+            // Eight hours at a stretch are night, so that these are hours of the day and of the night.
+            for (int hour = clock; hour < clock + 24; hour += 6) {
+                p.append(' ').append(x.noiseAt(s, hour));
             }
         }
-        for (int b = 0; b < x.borrowerCount(); b++) {
+        int borrowers = x.borrowerCount();
+        for (int b = 0; b < borrowers; b++) {
             p.append("\nborrower ").append(x.streetOf(b)).append(' ').append(x.illnessOf(b)).append(' ');
-            p.append(x.creditOf(b)).append(' ').append(x.overdueLoans(b));
-            for (int hours = 0; hours <= 48; hours++) {
+            p.append(x.creditOf(b)).append(" later");
+            for (int hours : FORECASTS) {
                 p.append(' ').append(x.illnessAfter(b, hours));
             }
         }
-        for (int i = 0; i < x.loanCount(); i++) {
+        int loans = x.loanCount();
+        for (int i = 0; i < loans; i++) {
             p.append("\nloan ").append(x.borrowerOf(i)).append(' ').append(x.startOf(i)).append(' ');
             p.append(x.lengthOf(i)).append(' ').append(x.priceOf(i)).append(' ').append(x.statusOf(i));
+        }
+        return p.toString();
+    }
+
+    static String permits(SilenceBureau x) {
+        StringBuilder p = new StringBuilder();
+        int clock = x.clock();
+        p.append("\npermits ").append(x.permitCount());
+        int streets = x.streetCount();
+        for (int s = 0; s < streets; s++) {
+            p.append("\nin street ").append(s).append(':');
+            for (int hour = clock; hour < clock + 48; hour++) {
+                p.append(' ').append(x.permitFor(s, hour));
+            }
         }
         return p.toString();
     }

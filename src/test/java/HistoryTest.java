@@ -7,42 +7,68 @@ final class HistoryTest {
         undoneNumbersAreNew();
         whatUndoLeaves();
         saving();
+        savedTwice();
         Check.end("HistoryTest");
     }
 
     private static void tenChanges() {
         SilenceBureau x = new SilenceBureau();
         Check.throwing("nothing to undo", Check.STATE, () -> x.undo());
-        String[] pictures = new String[15];
         for (int i = 0; i < 15; i++) {
-            pictures[i] = Check.picture(x);
             Check.same("changes before change " + i, Math.min(i, 10), x.undoCount());
             x.pay(i % 3, i + 1);
         }
         for (int i = 14; i >= 5; i--) {
             Check.same("changes left", i - 5, x.undo());
             Check.same("undoCount", i - 5, x.undoCount());
-            Check.same("the state before change " + i, pictures[i], Check.picture(x));
+            SilenceBureau as = paid(i);
+            for (int b = 0; b < 3; b++) {
+                Check.same("the credit of " + b + " before change " + i, as.creditOf(b), x.creditOf(b));
+            }
         }
+        String before = Check.picture(paid(5));
+        Check.same("the state before ten changes", before, Check.picture(x));
         Check.throwing("only ten are undone", Check.STATE, () -> x.undo());
-        Check.same("a failing undo alters nothing", pictures[5], Check.picture(x));
+        Check.same("a failing undo alters nothing", before, Check.picture(x));
+    }
+
+    /** A new bureau after so many of the payments of tenChanges. */
+    private static SilenceBureau paid(int payments) {
+        SilenceBureau x = new SilenceBureau();
+        for (int i = 0; i < payments; i++) {
+            x.pay(i % 3, i + 1);
+        }
+        return x;
+    }
+
+    private static final Check.CallOn[] CHANGES = {x -> x.lend(2, 12, 2), x -> x.lend(1, 12, 1), x -> x.cancel(3),
+        x -> x.advance(2), x -> x.whistle(0), x -> x.grantPermit(0, 8, 3), x -> x.revokePermit(0), x -> x.pay(2, 77),
+        x -> x.advance(9), x -> x.restore(1)};
+
+    /** A new bureau after so many of the changes. */
+    private static SilenceBureau changed(int changes) {
+        SilenceBureau x = new SilenceBureau();
+        x.save(1);
+        for (int i = 0; i < changes; i++) {
+            CHANGES[i].make(x);
+        }
+        return x;
     }
 
     private static void everyChange() {
-        SilenceBureau x = new SilenceBureau();
-        x.save(1);
-        Check.Call[] changes = {() -> x.lend(2, 12, 2), () -> x.lend(1, 12, 1), () -> x.cancel(3), () -> x.advance(2),
-            () -> x.whistle(0), () -> x.grantPermit(0, 8, 3), () -> x.revokePermit(0), () -> x.pay(2, 77),
-            () -> x.advance(9), () -> x.restore(1)};
-        String[] pictures = new String[changes.length];
-        for (int i = 0; i < changes.length; i++) {
-            pictures[i] = Check.picture(x);
-            changes[i].make();
-            Check.same("recorded changes", i + 1, x.undoCount());
+        for (int left = 0; left <= CHANGES.length; left++) {
+            SilenceBureau x = changed(CHANGES.length);
+            Check.same("recorded changes", CHANGES.length, x.undoCount());
+            for (int i = CHANGES.length; i > left; i--) {
+                x.undo();
+            }
+            SilenceBureau as = changed(left);
+            Check.same("recorded changes after " + left, left, as.undoCount());
+            Check.same("all but " + left + " changes are undone", Check.picture(as), Check.picture(x));
         }
-        for (int i = changes.length - 1; i >= 0; i--) {
+        SilenceBureau x = changed(CHANGES.length);
+        for (int i = 0; i < CHANGES.length; i++) {
             x.undo();
-            Check.same("change " + i + " is undone", pictures[i], Check.picture(x));
         }
         Check.same("undone: the next loan has the same number", 2, x.lend(2, 12, 2));
         x.advance(40);
@@ -118,25 +144,39 @@ final class HistoryTest {
             Check.throwing("restore(" + slot + ")", Check.INDEX, () -> x.restore(slot));
         }
         Check.throwing("restore of nothing", Check.STATE, () -> x.restore(1));
-        String first = Check.picture(x);
         Check.same("save answers the clock", 5, x.save(1));
         Check.same("saving is no change", 0, x.undoCount());
         Check.throwing("the other slot is empty", Check.STATE, () -> x.restore(0));
         x.advance(8);
         x.pay(1, 9);
-        String second = Check.picture(x);
         Check.same("save in the other slot", 13, x.save(0));
         Check.same("restore answers the clock", 5, x.restore(1));
-        Check.same("the first state", first, Check.picture(x));
+        Check.same("the first state", first(), Check.picture(x));
         Check.same("restoring is a change", 3, x.undoCount());
         x.pay(2, 1);
         x.lend(2, 12, 1);
         Check.same("the state stays saved", 5, x.restore(1));
-        Check.same("unaltered", first, Check.picture(x));
-        Check.same("the other one too", 13, x.restore(0));
-        Check.same("the second state", second, Check.picture(x));
+        Check.same("unaltered", first(), Check.picture(x));
+    }
+
+    private static String first() {
+        return Check.picture(new SilenceBureau());
+    }
+
+    private static void savedTwice() {
+        SilenceBureau x = new SilenceBureau();
+        x.save(1);
+        x.advance(8);
+        x.pay(1, 9);
+        SilenceBureau second = new SilenceBureau();
+        second.advance(8);
+        second.pay(1, 9);
+        x.save(0);
+        x.restore(1);
+        Check.same("the second state", 13, x.restore(0));
+        Check.same("is as it was", Check.picture(second), Check.picture(x));
         x.undo();
-        Check.same("a restore is undone", first, Check.picture(x));
+        Check.same("a restore is undone", first(), Check.picture(x));
         x.restore(0);
         x.advance(1);
         Check.same("save replaces", 14, x.save(1));

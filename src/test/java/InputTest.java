@@ -84,18 +84,29 @@ final class InputTest {
                 + "lend d 0 1;hours 1;lend e 5 1";
         String short1 = "bureau 3 7;street w 1 2";
         String[] texts = {long1, long2, short1, long2, long1, "bureau 1 0", long1};
-        SilenceBureau x = new SilenceBureau();
-        for (String text : texts) {
-            Check.load(x, text);
-            SilenceBureau fresh = Check.loaded(text);
+        for (int count = 1; count <= texts.length; count++) {
+            SilenceBureau fresh = Check.loaded(texts[count - 1]);
+            SilenceBureau x = loadedInTurn(texts, count, long1 + ";hours");
             Check.same("a second text stands alone", Check.picture(fresh), Check.picture(x));
             Check.same("so do its accounts", 0, x.ledgerDifference());
             Check.same("and its borrowers", fresh.borrowerCount(), x.borrowerCount());
-            x.advance(40);
+            SilenceBureau y = loadedInTurn(texts, count, long1 + ";hours");
+            y.advance(40);
             fresh.advance(40);
-            Check.same("and what follows from it", Check.picture(fresh), Check.picture(x));
-            Check.throwing("an error in between", Check.ARGUMENT, () -> Check.load(x, long1 + ";hours"));
+            Check.same("and what follows from it", Check.picture(fresh), Check.picture(y));
         }
+    }
+
+    /** A bureau that has read so many of the texts, with the bad text in between. */
+    private static SilenceBureau loadedInTurn(String[] texts, int count, String bad) {
+        SilenceBureau x = new SilenceBureau();
+        for (int i = 0; i < count; i++) {
+            if (i > 0) {
+                Check.throwing("an error in between", Check.ARGUMENT, () -> Check.load(x, bad));
+            }
+            Check.load(x, texts[i]);
+        }
+        return x;
     }
 
     private static void loadBadLength() {
@@ -112,13 +123,18 @@ final class InputTest {
         Check.same("the error is gone", 0, x.errorKind());
     }
 
-    private static void loadWithError() {
+    private static SilenceBureau beforeError() {
         SilenceBureau x = new SilenceBureau();
         x.pay(1, 5);
         x.save(1);
         x.advance(3);
-        int written = x.writeBorrower(1);
-        String before = Check.picture(x);
+        x.writeBorrower(1);
+        return x;
+    }
+
+    private static void loadWithError() {
+        String before = Check.picture(beforeError());
+        SilenceBureau x = beforeError();
         Check.throwing("an empty text", Check.ARGUMENT, () -> x.load(0));
         Check.same("kind for an empty text", 1, x.errorKind());
         Check.same("offset for an empty text", 0, x.errorOffset());
@@ -129,7 +145,8 @@ final class InputTest {
         Check.throwing("the input is empty after an error", Check.INDEX, () -> x.load(1));
         Check.same("the state stays", before, Check.picture(x));
         Check.same("the changes stay", 2, x.undoCount());
-        Check.same("the output stays", "bob@oak 7 68", Check.output(x, written));
+        Check.same("the output stays", "bob@oak 7 68", Check.output(x, "bob@oak 7 68".length()));
+        Check.throwing("and has no byte more", Check.INDEX, () -> x.outputByte("bob@oak 7 68".length()));
         Check.same("the saved state stays", 5, x.restore(1));
         Check.throwing("the empty slot stays empty", Check.STATE, () -> x.restore(0));
         Check.same("undo after the error", 2, x.undo());
